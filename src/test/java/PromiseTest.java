@@ -13,14 +13,18 @@ public final class PromiseTest {
         style();
         hide();
         copyRow();
+        cutStyles();
         copyBox();
         copyItems();
         copyTooLong();
         joinLike();
         joinUnlike();
+        joinManyItems();
         joinLimits();
         pin();
         shelf();
+        shelfFull();
+        shelfUsedAgain();
         piece();
         putRowPlain();
         putRowByName();
@@ -137,7 +141,11 @@ public final class PromiseTest {
         check.noSuch("paper below 0", () -> b.desk.type(-1, 0, 0, 1));
         check.noSuch("the paper is asked first", () -> b.desk.type(3, 0, 0, -1));
         check.same("tape as it was", b.desk.count(4), 20);
-        check.same("bytes behind n aren't asked", b.desk.type(plain, 999, 0, 1), 1000);
+        check.same("the last place", b.desk.type(plain, 999, 0, 1), 1000);
+        b.feed("ab\u0001");
+        check.same("bytes behind n aren't asked", b.desk.type(styled, 0, 0, 2), 3);
+        b.feed("ab\t");
+        check.isTrue("nor for a cell", b.desk.cell(table, 0, 0, 2));
     }
 
     private static void cell() {
@@ -254,6 +262,23 @@ public final class PromiseTest {
         check.noSuch("no paper", () -> b.desk.copyRow(2, 0, 1, false));
         check.same("numbers are used by pieces alone", b.desk.copyRow(plain, 0, 3, false), 3);
         check.same("acts", b.desk.count(3), 3);
+    }
+
+    private static void cutStyles() {
+        Bench b = new Bench();
+        int from = b.desk.paper(1);
+        b.desk.style(from, 99, 999);
+        b.desk.style(from, 98, 0);
+        b.type(from, 0, 0, "ab");
+        b.type(from, 2, 1, "cd");
+        b.type(from, 4, 2, "ef");
+        b.desk.copyRow(from, 1, 3, true);
+        check.same("the styles move up, too", b.stylesOf(from), "0122");
+        b.desk.copyRow(from, 0, 4, false);
+        int to = b.desk.paper(1);
+        b.desk.putRow(to, 1, 0, 0);
+        check.same("the piece has them", b.sheetOf(to), "0:0 99:999 98:0 ");
+        check.same("at their places", b.stylesOf(to), "0122");
     }
 
     private static void copyBox() {
@@ -393,6 +418,33 @@ public final class PromiseTest {
         check.same("form", b.form(6), "c\td\nc\td\t");
     }
 
+    private static void joinManyItems() {
+        Bench b = new Bench();
+        int list = b.desk.paper(3);
+        for (int i = 0; i < 23; i++) {
+            b.desk.item(list, i, i == 0 ? 1 : 0, 0);
+        }
+        b.desk.copyItems(list, 1, 23, false);
+        b.desk.copyItems(list, 0, 23, false);
+        check.same("levels of both", b.desk.join(0, 1), 2);
+        check.same("the one of level 1 stands in", b.form(2).substring(86, 104), "20. \n21. \n22. \n  1");
+        b.desk.join(0, 0);
+        b.desk.join(3, 3);
+        check.same("110 items", b.desk.join(4, 0), 5);
+        check.same("are told", b.desk.piece(5, 2), 110);
+        String form = b.form(5);
+        check.same("numbers of three digits", form.substring(form.length() - 17), "108. \n109. \n110. ");
+        check.same("bytes", b.desk.piece(5, 1), 9 * 4 + 90 * 5 + 11 * 6 - 1);
+        check.same("220 are too long", b.desk.join(5, 5), -1);
+        b.desk.copyItems(list, 1, 23, false);
+        b.desk.join(5, 6);
+        check.same("154", b.desk.join(7, 6), 8);
+        check.same("308 are too many", b.desk.join(8, 8), -1);
+        int empty = b.desk.paper(3);
+        check.same("30 come", b.desk.putItems(empty, 8, 0, 0), 30);
+        check.same("the others don't", b.losses(), "0 0 0 0 0 0 124 0");
+    }
+
     private static void joinLimits() {
         Bench b = new Bench();
         int table = b.desk.paper(2);
@@ -464,6 +516,51 @@ public final class PromiseTest {
         check.same("but is in the new one", b.form(7), "bg");
         b.desk.undo();
         check.same("the shelf stays on undo", b.desk.count(1), 6);
+    }
+
+    private static void shelfFull() {
+        Bench b = new Bench();
+        int plain = b.row(0, "abcdefghijklmnop");
+        for (int k = 0; k < 4; k++) {
+            b.desk.copyRow(plain, k, k + 1, false);
+            b.desk.pin(k, true);
+        }
+        for (int k = 4; k < 16; k++) {
+            check.same("one more", b.desk.copyRow(plain, k, k + 1, false), k);
+            check.same("6 that aren't pinned", b.desk.count(1), Math.min(k + 1, 10));
+        }
+        for (int k = 0; k < 16; k++) {
+            int number = k;
+            if (k < 4 || k > 9) {
+                check.same("is there", b.form(k), "" + (char) ('a' + k));
+            } else {
+                check.noSuch("went", () -> b.desk.plain(number));
+            }
+        }
+    }
+
+    /** What a PIECE that went has been doesn't show in one that comes later. */
+    private static void shelfUsedAgain() {
+        Bench b = new Bench();
+        int styled = b.desk.paper(1);
+        b.desk.style(styled, 1, 1);
+        b.type(styled, 0, 1, "abcdef");
+        int table = b.desk.paper(2);
+        b.desk.hide(table, 0, true);
+        for (int k = 0; k < 8; k++) {
+            b.desk.copyRow(styled, 0, 6, false);
+            b.desk.copyBox(table, 0, 0, 1, 0, false);
+        }
+        b.desk.hide(table, 0, false);
+        for (int k = 0; k < 8; k++) {
+            int box = b.desk.copyBox(table, 0, 0, 1, 0, false);
+            check.same("no hidden rows", b.desk.piece(box, 5), 0);
+            int row = b.desk.copyRow(styled, 0, 3, false);
+            int joined = b.desk.join(row, box);
+            b.desk.putBox(table, joined, 0, 0);
+            check.same("no styles", b.losses(), "0 0 0 0 0 0 0 0");
+            b.desk.undo();
+        }
     }
 
     private static void piece() {
