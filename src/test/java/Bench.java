@@ -5,7 +5,7 @@ final class Bench {
     static final int TABLE = 2;
     static final int LIST = 3;
 
-    final CutDesk desk = new CutDesk();
+    final Desk desk = new Desk();
 
     /** Puts a text on the tape, with blanks behind it, and answers its length. */
     int feed(String text) {
@@ -61,34 +61,46 @@ final class Bench {
     }
 
     String out() {
+        return out(0, desk.count(5));
+    }
+
+    /** The bytes a to b (not b) of OUT. */
+    String out(int a, int b) {
         StringBuilder text = new StringBuilder();
-        for (int k = 0; k < desk.count(5); k++) {
+        for (int k = a; k < b; k++) {
             text.append((char) desk.told(k));
         }
         return text.toString();
     }
 
     String form(int piece) {
-        desk.plain(piece);
-        return out();
+        return out(0, desk.plain(piece));
     }
 
     String cellText(int paper, int row, int column) {
-        desk.cellOf(paper, row, column);
-        return out();
+        return out(0, desk.cellOf(paper, row, column));
     }
 
     String bytesOf(int paper) {
+        return bytesOf(paper, 0, desk.about(paper, 1));
+    }
+
+    /** The bytes of the places a to b (not b). */
+    String bytesOf(int paper, int a, int b) {
         StringBuilder text = new StringBuilder();
-        for (int k = 0; k < desk.about(paper, 1); k++) {
+        for (int k = a; k < b; k++) {
             text.append((char) desk.at(paper, k, 0));
         }
         return text.toString();
     }
 
     String stylesOf(int paper) {
+        return stylesOf(paper, 0, desk.about(paper, 1));
+    }
+
+    String stylesOf(int paper, int a, int b) {
         StringBuilder text = new StringBuilder();
-        for (int k = 0; k < desk.about(paper, 1); k++) {
+        for (int k = a; k < b; k++) {
             text.append(desk.at(paper, k, 1));
         }
         return text.toString();
@@ -96,7 +108,8 @@ final class Bench {
 
     String sheetOf(int paper) {
         StringBuilder text = new StringBuilder();
-        for (int s = 0; s < desk.about(paper, 2); s++) {
+        int total = desk.about(paper, 2);
+        for (int s = 0; s < total; s++) {
             text.append(desk.styleOf(paper, s, 0)).append(':').append(desk.styleOf(paper, s, 1)).append(' ');
         }
         return text.toString();
@@ -104,9 +117,14 @@ final class Bench {
 
     /** CELLS with a | behind each and a / behind each ROW. */
     String cellsOf(int paper) {
+        return cellsOf(paper, 6, 6);
+    }
+
+    /** The same of the first ROWS and COLUMNS alone. */
+    String cellsOf(int paper, int rows, int columns) {
         StringBuilder text = new StringBuilder();
-        for (int r = 0; r < 6; r++) {
-            for (int c = 0; c < 6; c++) {
+        for (int r = 0; r < rows; r++) {
+            for (int c = 0; c < columns; c++) {
                 text.append(cellText(paper, r, c)).append('|');
             }
             text.append('/');
@@ -117,10 +135,11 @@ final class Bench {
     /** Each ITEM as LEVEL, NUMBER, text. */
     String itemsOf(int paper) {
         StringBuilder text = new StringBuilder();
-        for (int i = 0; i < desk.about(paper, 1); i++) {
-            desk.textOf(paper, i);
+        int total = desk.about(paper, 1);
+        for (int i = 0; i < total; i++) {
+            int length = desk.textOf(paper, i);
             text.append(desk.itemOf(paper, i, 0)).append(',').append(desk.itemOf(paper, i, 1))
-                    .append(',').append(out()).append(';');
+                    .append(',').append(out(0, length)).append(';');
         }
         return text.toString();
     }

@@ -1,19 +1,38 @@
+import java.util.ArrayList;
+import java.util.List;
 import java.util.Random;
 
-/** Random runs on a new desk and a new model: every answer is the same, and so is all that can be seen. */
+/**
+ * Random runs of a model, asked again of new desks: every answer is the same, and so is all that can be
+ * seen in the end. What can be seen takes more calls than one object is promised for, so that each part
+ * of it is asked of a new desk that has been through the same run.
+ */
 public final class ModelTest {
-    private static final int RUNS = 300;
-    private static final int CALLS = 400;
+    private static final int RUNS = 1000;
+    private static final int LEAST_LEFT = 60;
+    // A step makes at most 36 calls: 20 of feed, one more, and what is asked behind it.
+    private static final int MOST_OF_STEP = 36;
+    private static final int UNDOES = 21;
+    private static final int TOLD_AT_ONCE = 40;
     private static final int[] ODD = {-1, 6, 7, 8, 30, 31, 100, 999, 1000, 1001, Integer.MAX_VALUE, Integer.MIN_VALUE};
+
+    interface Ask {
+        long of(Desk desk);
+    }
+
+    /** A call and the answer that is due. */
+    private record Row(String what, Ask ask, String want) {
+    }
 
     private final Check check;
     private final Random random;
-    private final CutDesk desk = new CutDesk();
     private final Model model = new Model();
-    private final StringBuilder story = new StringBuilder();
+    private final List<Row> run = new ArrayList<>();
+    private final List<List<Row>> looks = new ArrayList<>();
     private final String name;
     private final boolean longTexts;
     private final long[] met;
+    private List<Row> rows = run;
     private int newest = -1;
 
     private ModelTest(Check check, int seed, long[] met) {
@@ -28,7 +47,7 @@ public final class ModelTest {
         Check check = new Check();
         long[] met = new long[8];
         for (int seed = 0; seed < RUNS && check.wrongTotal() == 0; seed++) {
-            new ModelTest(check, seed, met).run();
+            new ModelTest(check, seed, met).go();
         }
         for (int kind = 0; kind < met.length; kind++) {
             check.isTrue("runs with losses of kind " + kind, met[kind] > 0);
@@ -36,15 +55,53 @@ public final class ModelTest {
         check.end();
     }
 
-    private void run() {
-        for (int k = 0; k < CALLS && check.wrongTotal() == 0; k++) {
+    private void go() {
+        int most = 40 + below(Desk.MOST_CALLS - LEAST_LEFT - UNDOES - MOST_OF_STEP - 40);
+        for (int k = 0; k < Desk.MOST_CALLS && run.size() < most; k++) {
             step();
-            if (k % 40 == 39) {
-                compareAll();
+        }
+        startLook();
+        same("count(5)", desk -> desk.count(5), () -> model.count(5));
+        lookAtTold(0, Math.min(model.count(5), TOLD_AT_ONCE));
+        lookAtAll();
+        askAll();
+        rows = run;
+        for (int k = 0; k < UNDOES; k++) {
+            same("undo()", desk -> desk.undo() ? 1 : 0, () -> model.undo() ? 1 : 0);
+        }
+        looks.clear();
+        lookAtAll();
+        askAll();
+    }
+
+    /** As many looks of each desk as its calls are enough for. */
+    private void askAll() {
+        Desk desk = null;
+        for (List<Row> look : looks) {
+            if (desk == null || desk.calls() + look.size() > Desk.MOST_CALLS) {
+                desk = new Desk();
+                askRows(desk, run);
+            }
+            askRows(desk, look);
+            if (check.wrongTotal() > 0) {
+                return;
             }
         }
-        if (check.wrongTotal() > 0) {
-            System.out.println(name + "\n" + story);
+    }
+
+    private void askRows(Desk desk, List<Row> asked) {
+        for (int k = 0; k < asked.size() && check.wrongTotal() == 0; k++) {
+            Row row = asked.get(k);
+            check.same(name + ": " + row.what, Check.answerOf(() -> row.ask.of(desk)), row.want);
+            if (check.wrongTotal() > 0) {
+                tell(asked == run ? k : run.size());
+            }
+        }
+    }
+
+    private void tell(int rowsOfRun) {
+        for (int k = 0; k < rowsOfRun; k++) {
+            System.out.println(run.get(k).what + " -> " + run.get(k).want);
         }
     }
 
@@ -80,15 +137,14 @@ public final class ModelTest {
         return paper < 0 || paper >= model.count(0) ? 3 : model.about(paper, 1);
     }
 
-    private String same(String what, Check.Call ofDesk, Check.Call ofModel) {
+    private String same(String what, Ask ofDesk, Check.Call ofModel) {
         String want = Check.answerOf(ofModel);
-        story.append(what).append(" -> ").append(want).append('\n');
-        check.same(name + ": " + what, Check.answerOf(ofDesk), want);
+        rows.add(new Row(what, ofDesk, want));
         return want;
     }
 
     /** The same, of a call that answers a new PIECE. */
-    private void samePiece(String what, Check.Call ofDesk, Check.Call ofModel) {
+    private void samePiece(String what, Ask ofDesk, Check.Call ofModel) {
         String want = same(what, ofDesk, ofModel);
         if (Character.isDigit(want.charAt(0))) {
             newest = Integer.parseInt(want);
@@ -111,7 +167,7 @@ public final class ModelTest {
                 int b = characters && below(30) > 0 ? 97 + below(26) : someByte();
                 w[k / 4] = w[k / 4] << 8 | b;
             }
-            same("feed", () -> desk.feed(w[0], w[1], w[2], w[3], w[4]), () -> model.feed(w));
+            same("feed", desk -> desk.feed(w[0], w[1], w[2], w[3], w[4]), () -> model.feed(w));
         }
     }
 
@@ -123,9 +179,9 @@ public final class ModelTest {
     private void step() {
         if (model.count(0) < 6 && (model.count(0) < 4 || below(10) == 0)) {
             int make = below(10) == 0 ? some(5) : model.count(0) == 4 ? 1 : (model.count(0) + below(2)) % 4;
-            same("paper(" + make + ")", () -> desk.paper(make), () -> model.paper(make));
+            same("paper(" + make + ")", desk -> desk.paper(make), () -> model.paper(make));
         }
-        switch (below(16)) {
+        switch (below(17)) {
             case 0, 1 -> typeSome();
             case 2 -> cellSome();
             case 3 -> itemSome();
@@ -137,6 +193,7 @@ public final class ModelTest {
             case 10 -> joinSome();
             case 11 -> pinSome();
             case 12, 13, 14 -> putSome();
+            case 15 -> tellSome();
             default -> undoSome();
         }
     }
@@ -148,7 +205,7 @@ public final class ModelTest {
         int style = some(Math.max(1, p >= 0 && p < model.count(0) ? model.about(p, 2) : 1));
         int n = someLength(400);
         same("type(" + p + ", " + place + ", " + style + ", " + n + ")",
-                () -> desk.type(p, place, style, n), () -> model.type(p, place, style, n));
+                desk -> desk.type(p, place, style, n), () -> model.type(p, place, style, n));
     }
 
     private void cellSome() {
@@ -158,7 +215,7 @@ public final class ModelTest {
         int c = some(6);
         int n = someLength(20);
         same("cell(" + p + ", " + r + ", " + c + ", " + n + ")",
-                () -> desk.cell(p, r, c, n) ? 1 : 0, () -> model.cell(p, r, c, n) ? 1 : 0);
+                desk -> desk.cell(p, r, c, n) ? 1 : 0, () -> model.cell(p, r, c, n) ? 1 : 0);
     }
 
     private void itemSome() {
@@ -168,7 +225,7 @@ public final class ModelTest {
         int level = some(6);
         int n = someLength(40);
         same("item(" + p + ", " + i + ", " + level + ", " + n + ")",
-                () -> desk.item(p, i, level, n), () -> model.item(p, i, level, n));
+                desk -> desk.item(p, i, level, n), () -> model.item(p, i, level, n));
     }
 
     private void styleSome() {
@@ -176,7 +233,7 @@ public final class ModelTest {
         int nameOfIt = some(6);
         int look = some(4);
         same("style(" + p + ", " + nameOfIt + ", " + look + ")",
-                () -> desk.style(p, nameOfIt, look), () -> model.style(p, nameOfIt, look));
+                desk -> desk.style(p, nameOfIt, look), () -> model.style(p, nameOfIt, look));
     }
 
     private void hideSome() {
@@ -184,7 +241,7 @@ public final class ModelTest {
         int r = some(6);
         boolean is = below(3) == 0;
         same("hide(" + p + ", " + r + ", " + is + ")",
-                () -> desk.hide(p, r, is) ? 1 : 0, () -> model.hide(p, r, is) ? 1 : 0);
+                desk -> desk.hide(p, r, is) ? 1 : 0, () -> model.hide(p, r, is) ? 1 : 0);
     }
 
     private void copyRowSome() {
@@ -193,7 +250,7 @@ public final class ModelTest {
         int b = some(size(p) + 1);
         boolean cut = below(3) == 0;
         samePiece("copyRow(" + p + ", " + a + ", " + b + ", " + cut + ")",
-                () -> desk.copyRow(p, a, b, cut), () -> model.copyRow(p, a, b, cut));
+                desk -> desk.copyRow(p, a, b, cut), () -> model.copyRow(p, a, b, cut));
     }
 
     private void copyBoxSome() {
@@ -204,7 +261,7 @@ public final class ModelTest {
         int toC = c + some(3);
         boolean cut = below(3) == 0;
         samePiece("copyBox(" + p + ", " + r + ", " + c + ", " + toR + ", " + toC + ", " + cut + ")",
-                () -> desk.copyBox(p, r, c, toR, toC, cut), () -> model.copyBox(p, r, c, toR, toC, cut));
+                desk -> desk.copyBox(p, r, c, toR, toC, cut), () -> model.copyBox(p, r, c, toR, toC, cut));
     }
 
     private void copyItemsSome() {
@@ -213,20 +270,20 @@ public final class ModelTest {
         int b = some(size(p) + 1);
         boolean cut = below(4) == 0;
         samePiece("copyItems(" + p + ", " + a + ", " + b + ", " + cut + ")",
-                () -> desk.copyItems(p, a, b, cut), () -> model.copyItems(p, a, b, cut));
+                desk -> desk.copyItems(p, a, b, cut), () -> model.copyItems(p, a, b, cut));
     }
 
     private void joinSome() {
         int one = somePiece();
         int two = somePiece();
-        samePiece("join(" + one + ", " + two + ")", () -> desk.join(one, two), () -> model.join(one, two));
+        samePiece("join(" + one + ", " + two + ")", desk -> desk.join(one, two), () -> model.join(one, two));
     }
 
     private void pinSome() {
         int piece = somePiece();
         boolean is = below(3) > 0;
         same("pin(" + piece + ", " + is + ")",
-                () -> desk.pin(piece, is) ? 1 : 0, () -> model.pin(piece, is) ? 1 : 0);
+                desk -> desk.pin(piece, is) ? 1 : 0, () -> model.pin(piece, is) ? 1 : 0);
     }
 
     private void putSome() {
@@ -237,17 +294,17 @@ public final class ModelTest {
             int place = some(size(p) + 1);
             int way = some(2);
             same("putRow(" + p + ", " + piece + ", " + place + ", " + way + ")",
-                    () -> desk.putRow(p, piece, place, way), () -> model.putRow(p, piece, place, way));
+                    desk -> desk.putRow(p, piece, place, way), () -> model.putRow(p, piece, place, way));
         } else if (make == 2) {
             int r = some(6);
             int c = some(6);
             same("putBox(" + p + ", " + piece + ", " + r + ", " + c + ")",
-                    () -> desk.putBox(p, piece, r, c), () -> model.putBox(p, piece, r, c));
+                    desk -> desk.putBox(p, piece, r, c), () -> model.putBox(p, piece, r, c));
         } else {
             int i = some(size(p) + 1);
             int level = some(6);
             same("putItems(" + p + ", " + piece + ", " + i + ", " + level + ")",
-                    () -> desk.putItems(p, piece, i, level), () -> model.putItems(p, piece, i, level));
+                    desk -> desk.putItems(p, piece, i, level), () -> model.putItems(p, piece, i, level));
         }
         compareLosses();
         for (int kind = 0; kind < met.length; kind++) {
@@ -258,93 +315,124 @@ public final class ModelTest {
     private void undoSome() {
         int times = below(8) == 0 ? below(25) : 1;
         for (int k = 0; k < times; k++) {
-            same("undo()", () -> desk.undo() ? 1 : 0, () -> model.undo() ? 1 : 0);
+            same("undo()", desk -> desk.undo() ? 1 : 0, () -> model.undo() ? 1 : 0);
+        }
+    }
+
+    private void tellSome() {
+        int p = paperOf(2, 3);
+        int i = some(Math.min(size(p), 6));
+        int piece = somePiece();
+        switch (below(3)) {
+            case 0 -> same("cellOf(" + p + ", " + i + ", 1)", desk -> desk.cellOf(p, i, 1), () -> model.cellOf(p, i, 1));
+            case 1 -> same("textOf(" + p + ", " + i + ")", desk -> desk.textOf(p, i), () -> model.textOf(p, i));
+            default -> same("plain(" + piece + ")", desk -> desk.plain(piece), () -> model.plain(piece));
         }
     }
 
     private void compareLosses() {
         for (int kind = 0; kind < 8; kind++) {
             int k = kind;
-            same("lost(" + k + ")", () -> desk.lost(k), () -> model.lost(k));
+            same("lost(" + k + ")", desk -> desk.lost(k), () -> model.lost(k));
         }
     }
 
-    private void compareAll() {
-        int mark = story.length();
-        compareLosses();
-        for (int what = -1; what < 7; what++) {
+    /** The rows that follow are asked of one desk, one behind the other. */
+    private void startLook() {
+        rows = new ArrayList<>();
+        looks.add(rows);
+    }
+
+    private void lookAtAll() {
+        startLook();
+        for (int what = -1; what < 5; what++) {
             int w = what;
-            same("count(" + w + ")", () -> desk.count(w), () -> model.count(w));
+            same("count(" + w + ")", desk -> desk.count(w), () -> model.count(w));
         }
+        same("count(6)", desk -> desk.count(6), () -> model.count(6));
+        compareLosses();
         for (int p = 0; p < 7; p++) {
-            comparePaper(p);
+            lookAtPaper(p);
         }
-        for (int piece = 0; piece <= newest + 1; piece++) {
-            comparePiece(piece);
-        }
-        if (check.wrongTotal() == 0) {
-            story.setLength(mark);
+        for (int piece = Math.max(-1, newest - 20); piece <= newest + 1; piece++) {
+            lookAtPiece(piece);
         }
     }
 
-    private void comparePaper(int p) {
+    private void lookAtPaper(int p) {
+        startLook();
         for (int what = 0; what < 4; what++) {
             int w = what;
-            same("about(" + p + ", " + w + ")", () -> desk.about(p, w), () -> model.about(p, w));
+            same("about(" + p + ", " + w + ")", desk -> desk.about(p, w), () -> model.about(p, w));
         }
         int make = p < model.count(0) ? model.about(p, 0) : -1;
         int most = make == -1 || make == 2 ? 0 : model.about(p, 1);
         for (int k = 0; k <= most; k++) {
-            comparePlace(p, k, make);
+            if (most < 100 || k < 4 || k > most - 4 || below(most) < 100) {
+                lookAtPlace(p, k, make);
+            }
         }
         for (int k = 0; k < (make == 2 ? 42 : 1); k++) {
             int r = k / 6;
             int c = k % 6;
-            same("cellOf(" + p + ", " + r + ", " + c + ")",
-                    () -> desk.cellOf(p, r, c), () -> model.cellOf(p, r, c));
-            compareOut();
+            lookAtOut("cellOf(" + p + ", " + r + ", " + c + ")",
+                    desk -> desk.cellOf(p, r, c), () -> model.cellOf(p, r, c));
         }
     }
 
     /** What the paper's make hasn't got is asked of its first place alone: exceptions take their time. */
-    private void comparePlace(int p, int place, int make) {
+    private void lookAtPlace(int p, int place, int make) {
+        startLook();
         for (int what = 0; what < 3; what++) {
             int w = what;
             if (make < 2 || place == 0) {
                 same("at(" + p + ", " + place + ", " + w + ")",
-                        () -> desk.at(p, place, w), () -> model.at(p, place, w));
+                        desk -> desk.at(p, place, w), () -> model.at(p, place, w));
             }
             if (make == 3 || place == 0) {
                 same("itemOf(" + p + ", " + place + ", " + w + ")",
-                        () -> desk.itemOf(p, place, w), () -> model.itemOf(p, place, w));
+                        desk -> desk.itemOf(p, place, w), () -> model.itemOf(p, place, w));
             }
             if (place <= 8) {
                 same("styleOf(" + p + ", " + place + ", " + w + ")",
-                        () -> desk.styleOf(p, place, w), () -> model.styleOf(p, place, w));
+                        desk -> desk.styleOf(p, place, w), () -> model.styleOf(p, place, w));
             }
         }
         if (make == 3 || place == 0) {
-            same("textOf(" + p + ", " + place + ")", () -> desk.textOf(p, place), () -> model.textOf(p, place));
-            compareOut();
+            lookAtOut("textOf(" + p + ", " + place + ")",
+                    desk -> desk.textOf(p, place), () -> model.textOf(p, place));
         }
     }
 
-    private void comparePiece(int piece) {
+    private void lookAtPiece(int piece) {
+        startLook();
         for (int what = 0; what < 7; what++) {
             int w = what;
-            same("piece(" + piece + ", " + w + ")", () -> desk.piece(piece, w), () -> model.piece(piece, w));
+            same("piece(" + piece + ", " + w + ")", desk -> desk.piece(piece, w), () -> model.piece(piece, w));
         }
-        same("plain(" + piece + ")", () -> desk.plain(piece), () -> model.plain(piece));
-        if (!Check.answerOf(() -> model.plain(piece)).equals(Check.NO_SUCH)) {
-            compareOut();
+        lookAtOut("plain(" + piece + ")", desk -> desk.plain(piece), () -> model.plain(piece));
+    }
+
+    /** Long texts are asked part by part. */
+    private void lookAtOut(String what, Ask ofDesk, Check.Call ofModel) {
+        startLook();
+        if (same(what, ofDesk, ofModel).equals(Check.NO_SUCH)) {
+            return;
+        }
+        int n = model.count(5);
+        for (int k = 0; k <= n; k += TOLD_AT_ONCE) {
+            if (k > 0) {
+                startLook();
+                same(what, ofDesk, ofModel);
+            }
+            lookAtTold(k, Math.min(k + TOLD_AT_ONCE, n + 1));
         }
     }
 
-    private void compareOut() {
-        int n = model.count(5);
-        for (int k = 0; k <= n; k++) {
+    private void lookAtTold(int a, int b) {
+        for (int k = a; k < b; k++) {
             int byteOf = k;
-            same("told(" + k + ")", () -> desk.told(byteOf), () -> model.told(byteOf));
+            same("told(" + k + ")", desk -> desk.told(byteOf), () -> model.told(byteOf));
         }
     }
 }

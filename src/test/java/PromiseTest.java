@@ -55,7 +55,7 @@ public final class PromiseTest {
     }
 
     private static void newObject() {
-        CutDesk desk = new CutDesk();
+        Desk desk = new Desk();
         for (int what = 0; what < 6; what++) {
             check.same("new: count " + what, desk.count(what), 0);
         }
@@ -69,7 +69,7 @@ public final class PromiseTest {
     }
 
     private static void paper() {
-        CutDesk desk = new CutDesk();
+        Desk desk = new Desk();
         check.same("paper(-1)", desk.paper(-1), -1);
         check.same("paper(4)", desk.paper(4), -1);
         for (int k = 0; k < 6; k++) {
@@ -82,7 +82,7 @@ public final class PromiseTest {
     }
 
     private static void feed() {
-        CutDesk desk = new CutDesk();
+        Desk desk = new Desk();
         int paper = desk.paper(0);
         check.same("feed", desk.feed(0x41424344, 0x45464748, 0x494a4b4c, 0x4d4e4f50, 0x51525354), 20);
         check.same("type all", desk.type(paper, 0, 0, 20), 20);
@@ -427,13 +427,14 @@ public final class PromiseTest {
         b.desk.copyItems(list, 1, 23, false);
         b.desk.copyItems(list, 0, 23, false);
         check.same("levels of both", b.desk.join(0, 1), 2);
-        check.same("the one of level 1 stands in", b.form(2).substring(86, 104), "20. \n21. \n22. \n  1");
+        b.desk.plain(2);
+        check.same("the one of level 1 stands in", b.out(86, 104), "20. \n21. \n22. \n  1");
         b.desk.join(0, 0);
         b.desk.join(3, 3);
         check.same("110 items", b.desk.join(4, 0), 5);
         check.same("are told", b.desk.piece(5, 2), 110);
-        String form = b.form(5);
-        check.same("numbers of three digits", form.substring(form.length() - 17), "108. \n109. \n110. ");
+        int end = b.desk.plain(5);
+        check.same("numbers of three digits", b.out(end - 17, end), "108. \n109. \n110. ");
         check.same("bytes", b.desk.piece(5, 1), 9 * 4 + 90 * 5 + 11 * 6 - 1);
         check.same("220 are too long", b.desk.join(5, 5), -1);
         b.desk.copyItems(list, 1, 23, false);
@@ -699,7 +700,8 @@ public final class PromiseTest {
         int styled = b.row(1, times("y", 998));
         b.desk.copyRow(from, 0, 10, false);
         check.same("3 come", b.desk.putRow(plain, 0, 0, 0), 3);
-        check.same("the end is left off", b.bytesOf(plain), "abb" + times("x", 997));
+        check.same("the end is left off", b.bytesOf(plain, 0, 6), "abbxxx");
+        check.same("what was there stays", b.bytesOf(plain, 995, 1000), "xxxxx");
         check.same("styles of what came", b.losses(), "3 0 0 7 0 0 0 0");
         check.same("none come", b.desk.putRow(plain, 0, 500, 0), 0);
         check.same("all lost", b.losses(), "0 0 0 10 0 0 0 0");
@@ -930,11 +932,11 @@ public final class PromiseTest {
     }
 
     private static String everything(Bench b) {
-        return b.bytesOf(0) + b.stylesOf(0) + b.sheetOf(0) + b.cellsOf(1) + b.itemsOf(2);
+        return b.bytesOf(0) + b.stylesOf(0) + b.sheetOf(0) + b.cellsOf(1, 2, 2) + b.itemsOf(2);
     }
 
     private static String everythingEmpty() {
-        return "b10:0 1:10 " + times("||||||/", 6);
+        return "b10:0 1:10 " + times("||/", 2);
     }
 
     private static void about() {

@@ -5,7 +5,6 @@ import java.lang.management.ManagementFactory;
  * room's 7.3 million keep its elements below it, too.
  */
 public final class RoomTest {
-    private static final int CALLS = 512;
     private static final long MOST_BYTES = 3_000_000;
 
     private static final Check check = new Check();
@@ -31,7 +30,7 @@ public final class RoomTest {
         long before = threads.getThreadAllocatedBytes(self);
         CutDesk other = new CutDesk();
         check.same("a new one", other.count(0), 0);
-        for (int k = 0; k < CALLS; k++) {
+        for (int k = 0; b.desk.calls() < Desk.MOST_CALLS; k++) {
             step.run(b, k);
         }
         long used = threads.getThreadAllocatedBytes(self) - before;
