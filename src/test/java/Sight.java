@@ -1,6 +1,7 @@
 /**
- * All that can be seen of a desk, as a text: OUT, the counts, LOSSES, papers, PIECES, which ROWS are
- * HIDDEN, what UNDO brings back, and the tape. Looking changes the desk, so that it comes last.
+ * What is seen of a desk, as a text: OUT, the counts, LOSSES, papers, PIECES, which ROWS are HIDDEN, what
+ * UNDO brings back, and the tape. Of long texts the ends are read alone, as the calls of one object are
+ * few; the STYLES inside a PIECE aren't read. Looking changes the desk, so that it comes last.
  */
 final class Sight {
     private static final int MOST_PIECES = 14;
