@@ -11,19 +11,14 @@ import java.util.Set;
 import java.util.TreeSet;
 import java.util.regex.Matcher;
 import java.util.regex.Pattern;
+import java.util.stream.Collectors;
 
 /** The public face of the document, and the rules of LANGUAGE.md that can be looked at. */
 public final class FaceTest {
     private static final Path SOURCE = Path.of("src/main/java/CutDesk.java");
-    private static final String[] FACE = {
-        "int paper(int)", "int feed(int,int,int,int,int)", "int type(int,int,int,int)",
-        "boolean cell(int,int,int,int)", "int item(int,int,int,int)", "int style(int,int,int)",
-        "boolean hide(int,int,boolean)", "int copyRow(int,int,int,boolean)",
-        "int copyBox(int,int,int,int,int,boolean)", "int copyItems(int,int,int,boolean)", "int join(int,int)",
-        "boolean pin(int,boolean)", "int piece(int,int)", "int putRow(int,int,int,int)",
-        "int putBox(int,int,int,int)", "int putItems(int,int,int,int)", "int lost(int)", "boolean undo()",
-        "int about(int,int)", "int at(int,int,int)", "int styleOf(int,int,int)", "int itemOf(int,int,int)",
-        "int cellOf(int,int,int)", "int textOf(int,int)", "int plain(int)", "int told(int)", "int count(int)"};
+    private static final Path DOCUMENT = Path.of("../shared/DOC.md");
+    private static final Pattern METHOD_OF_FACE =
+            Pattern.compile("    public (\\w+) (\\w+)\\(([^)]*)\\)(?: throws ([\\w, ]+))?;");
     private static final String[] RULED_OUT = {
         "->", "::", "\\bcatch\\b", "\\bfinally\\b", "\\bassert\\b", "\\bsynchronized\\b", "\\bvar\\b",
         "\\bstatic \\{", "Exact\\(", "\" \\+", "\\+ \"", "\\bprotected\\b", "\\bSystem\\.(?!arraycopy)",
@@ -39,7 +34,7 @@ public final class FaceTest {
         check.end();
     }
 
-    private static void methods() {
+    private static void methods() throws IOException {
         Set<String> shown = new TreeSet<>();
         Set<String> names = new TreeSet<>();
         for (Method m : CutDesk.class.getDeclaredMethods()) {
@@ -50,7 +45,7 @@ public final class FaceTest {
                 names.add(m.getName());
             }
         }
-        check.same("the methods", shown.toString(), new TreeSet<>(Arrays.asList(FACE)).toString());
+        check.same("the methods", shown.toString(), faceOfTheDocument().toString());
         List<Class<?>> all = new ArrayList<>(List.of(CutDesk.class.getDeclaredClasses()));
         all.add(CutDesk.class);
         for (Class<?> c : all) {
@@ -62,21 +57,39 @@ public final class FaceTest {
         }
     }
 
-    private static String shortForm(Method m) {
-        StringBuilder text = new StringBuilder(m.getReturnType() + " " + m.getName() + "(");
-        for (Class<?> type : m.getParameterTypes()) {
-            text.append(text.charAt(text.length() - 1) == '(' ? "" : ",").append(type);
+    /** Each method of the document's face, without the names of what it takes. */
+    private static Set<String> faceOfTheDocument() throws IOException {
+        Set<String> face = new TreeSet<>();
+        for (String line : Files.readAllLines(DOCUMENT)) {
+            Matcher m = METHOD_OF_FACE.matcher(line);
+            if (m.matches()) {
+                String types = m.group(3).replaceAll(" \\w+(?=,|$)", "");
+                face.add(m.group(1) + " " + m.group(2) + "(" + types + ") throws " + m.group(4));
+            }
         }
-        return text.append(')').toString();
+        check.same("methods of the document", face.size(), 27);
+        return face;
+    }
+
+    private static String shortForm(Method m) {
+        String thrown = m.getExceptionTypes().length == 0 ? "null" : names(m.getExceptionTypes());
+        return m.getReturnType() + " " + m.getName() + "(" + names(m.getParameterTypes()) + ") throws " + thrown;
+    }
+
+    private static String names(Class<?>[] types) {
+        return Arrays.stream(types).map(Class::getSimpleName).collect(Collectors.joining(", "));
     }
 
     private static void fieldsAndConstructors() {
-        check.isTrue("final", Modifier.isFinal(CutDesk.class.getModifiers()));
+        check.isTrue("public and final", Modifier.isPublic(CutDesk.class.getModifiers())
+                && Modifier.isFinal(CutDesk.class.getModifiers()));
+        check.same("NONE", CutDesk.NONE, -1);
         check.same("constructors", CutDesk.class.getDeclaredConstructors().length, 1);
         check.same("public constructors", CutDesk.class.getConstructors().length, 1);
         for (Field f : CutDesk.class.getDeclaredFields()) {
             boolean isPrivate = Modifier.isPrivate(f.getModifiers());
-            check.isTrue(f + " is private, or NONE", isPrivate || f.getName().equals("NONE"));
+            check.isTrue(f + " is private, or NONE",
+                    isPrivate || f.toString().equals("public static final int CutDesk.NONE"));
             check.isTrue(f + " is final if static",
                     !Modifier.isStatic(f.getModifiers()) || Modifier.isFinal(f.getModifiers()));
         }
